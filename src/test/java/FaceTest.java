@@ -18,6 +18,7 @@ public final class FaceTest {
         String document = Files.readString(Path.of("../shared/DOC.md"));
         String source = Files.readString(Path.of("src/main/java/Strandbook.java"));
         checkMethods(document);
+        checkWords(document, source);
         checkMembers();
         checkText(source);
         Checks.end("FaceTest");
@@ -42,6 +43,18 @@ public final class FaceTest {
         }
         Checks.same("the number of methods that the document has", due.size(), 43);
         Checks.same("the face", got, due);
+    }
+
+    /** Word for word, the names of the parameters among them, which reflection does not tell. */
+    private static void checkWords(String document, String source) {
+        String words = source.replaceAll("\\s+", " ");
+        Matcher line = Pattern.compile("\n    (public [^;]*);").matcher(document);
+        int lines = 0;
+        while (line.find()) {
+            lines++;
+            Checks.same("the file says " + line.group(1), words.contains(" " + line.group(1) + " {"), true);
+        }
+        Checks.same("the number of lines in the document's face", lines, 44);
     }
 
     private static String names(Class<?>[] types) {
